@@ -5,7 +5,8 @@ import java.util.List;
 public final class ActsTest {
     private static final Checks c = new Checks("ActsTest");
     private static final int BAD = OlderSkin.BAD, FULL = OlderSkin.FULL;
-    private static final List<Integer> ran = new ArrayList<>();
+    /** The bodies that ran in the latest act of Java's own classes. */
+    static final List<Integer> ran = new ArrayList<>();
 
     private static int begin(int body) {
         ran.add(body);
@@ -162,6 +163,14 @@ public final class ActsTest {
             case 2: return s.shows(x);
             default: return s.tells(x);
         }
+    }
+
+    static int actOf(int kind, int n, int act, int x) {
+        return acted(made(kind, n), act, x);
+    }
+
+    static boolean isOf(int kind, int other) {
+        return made(other, 0).getClass().isInstance(made(kind, 0));
     }
 
     public static void main(String[] args) {
@@ -326,6 +335,11 @@ public final class ActsTest {
         c.due("none, behind the end", x.shift(0, 7, 1, 4, 0), -13);
         c.due("none, behind the other's end", x.shift(0, 6, 1, 5, 0), -13);
         c.due("all", x.shift(1, 0, 0, 0, 4), 4);
+        x.row(4, 3, 60);
+        x.row(5, 3, 60);
+        x.put(4, 59, Long.MAX_VALUE);
+        c.due("sixty", x.shift(4, 0, 5, 0, 60), 60);
+        c.due("the last of sixty", x.element(5, 59), Long.MAX_VALUE);
     }
 
     private static void refusedShifts() {

@@ -152,6 +152,11 @@ public final class DotsTest {
         c.due("than each of them", x.odd(6), 1);
         x.dot(7, 6);
         c.due("than the greatest", x.odd(6), 0);
+        OlderSkin first = new OlderSkin();
+        first.dot(7, 5);
+        first.dot(0, 5);
+        first.dot(0, 6);
+        c.due("the old book's dot is the first", first.odd(0), 1);
     }
 
     /** As the document says it, with lists. */
@@ -210,6 +215,28 @@ public final class DotsTest {
             }
         }
         c.due("the dots stay as they were", x.mean(52), (90 + 80 + 60 + 75) / 4);
+        chanceOfForty();
+    }
+
+    private static void chanceOfForty() {
+        OlderSkin x = new OlderSkin();
+        int[] inks = new int[40];
+        int[] stuffs = new int[40];
+        for (int k = 0; k < 40; k++) {
+            inks[k] = k * k % 3 == 0 ? 0 : 7;
+            stuffs[k] = k * 997 % 9999;
+            x.dot(inks[k], stuffs[k]);
+        }
+        for (int seed = 0; seed < 40; seed++) {
+            c.due("chance of forty, seed " + seed, x.chance(0, seed, 50), chanceSaid(inks, stuffs, 0, seed, 50));
+        }
+        OlderSkin two = new OlderSkin();
+        two.dot(0, 5);
+        two.dot(7, 6);
+        int[][] said = {{0, 7}, {5, 6}};
+        for (int n = 1; n <= 50; n++) {
+            c.due("chance of two, n " + n, two.chance(0, 1, n), chanceSaid(said[0], said[1], 0, 1, n));
+        }
     }
 
     private static void chosenOnes() {
@@ -231,6 +258,9 @@ public final class DotsTest {
         c.due("30 less 20", x.chosen(1), 10);
         c.due("41 less 17", x.chosen(2), 24);
         c.due("none in house 4", x.chosen(4), VOID);
+        x.dot(40, 100);
+        c.due("100 less 23", x.chosen(4), 77);
+        c.due("no house 5, though all are there", x.chosen(5), VOID);
     }
 
     private static void barred() {
@@ -260,5 +290,11 @@ public final class DotsTest {
         c.due("made(2001, 0)", x.made(2001, 0), 1900);
         c.due("not known again", x.bars(2, 0), 0);
         c.due("made is no change", x.count(9), 0);
+        c.due("made(0, 0)", x.made(0, 0), 2001);
+        c.due("made in year 0 bars none", x.bars(2, 0), 0);
+        c.due("year 0 was told", x.made(1, 0), 0);
+        c.due("year 1 bars year 0", x.bars(2, 0), 1);
+        x.dot(0, 5);
+        c.due("ink 0 bars", x.bars(0, 0), 1);
     }
 }

@@ -203,5 +203,45 @@ public final class LinesTest {
         c.due("an ink is not ahead of itself", same.inks(0, -1), 2);
         c.due("nor in a ring with itself", same.inks(0, -2), NOT);
         c.due("but it fights", same.fight(0, 0), 0);
+        manyInksOfOneWorm();
+    }
+
+    private static void manyInksOfOneWorm() {
+        OlderSkin x = new OlderSkin();
+        x.sheet(0);
+        x.hole(0, 0);
+        x.hole(0, 200);
+        for (int ink = 0; ink < 6; ink++) {
+            x.line(0, ink);
+        }
+        x.mark(500, 1);
+        x.mark(400, 1);
+        x.mark(0, 0);
+        x.mark(100, 0);
+        int[] ahead = {50, 40, 51, 41};
+        for (int ij : ahead) {
+            c.due("ahead " + ij, x.inks(0, ij), 1);
+        }
+        x.mark(301, 1);
+        x.mark(1, 0);
+        c.due("by another worm too", x.inks(0, 30), 1);
+        c.due("the first worm's stay", x.inks(0, 50), 1);
+        c.due("54: both over", x.inks(0, 54), 0);
+        x.mark(1, 1);
+        x.mark(501, 0);
+        c.due("a ring of 0 and 5", x.inks(0, -2), 5);
+        OlderSkin first = new OlderSkin();
+        first.sheet(0);
+        first.hole(0, 0);
+        first.hole(0, 200);
+        first.hole(0, 400);
+        first.line(0, 0);
+        first.line(0, 0);
+        first.mark(0, 1);
+        first.mark(2, 1);
+        first.mark(100, 0);
+        first.mark(102, 0);
+        c.due("ink 0 is first", first.inks(0, -1), 0);
+        c.due("the least worm, though told ahead", first.fight(0, 1), 0);
     }
 }

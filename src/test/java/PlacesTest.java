@@ -46,6 +46,12 @@ public final class PlacesTest {
         c.due("both", x.late(1499, 0), 2);
         c.due("both, off", x.late(1499, 1), 3 + 1 + 9);
         c.due("by the last", x.late(1600, 0), 0);
+        c.due("drawn at the far end", x.place(1601, 9999, 9999), 2);
+        c.due("none off", x.late(1600, 1), 0);
+        x.place(1900, 9900, 9800);
+        c.due("off by x alone", x.late(1800, 1), 1);
+        x.place(1900, 9998, 9999);
+        c.due("and by y alone", x.late(1800, 1), 2);
     }
 
     private static int wellSaid(int[][] lateOnes, int off, int seed, int n) {
@@ -131,6 +137,14 @@ public final class PlacesTest {
         c.due("bits", x.father(0, 1), 1);
         c.due("of 2", x.father(2, 0), 4);
         c.due("of 3", x.father(3, 0), NOT);
+        OlderSkin first = new OlderSkin();
+        first.map(1000, 3);
+        first.map(1500, 7);
+        first.map(1200, 96);
+        c.due("number 0 is a father", first.father(1, 0), 0);
+        c.due("its bits", first.father(1, 1), 1);
+        c.due("hangs on number 0", first.hangs(10), 1);
+        c.due("tree by number 0", first.shared(-1), 1 + 4);
     }
 
     private static void hanging() {
@@ -150,6 +164,13 @@ public final class PlacesTest {
         c.due("nor up two", x.hangs(20), 0);
         c.due("nor on itself", x.hangs(11), 0);
         c.due("nor on another one's son", x.hangs(30), 0);
+        OlderSkin chain = new OlderSkin();
+        for (int k = 0; k < 8; k++) {
+            chain.map(1000 + k, (1 << k) - 1);
+        }
+        c.due("the longest way", chain.hangs(70), 1);
+        c.due("and not down it", chain.hangs(7), 0);
+        c.due("6 on 5", chain.hangs(65), 1);
     }
 
     private static void sharedSlips() {
@@ -170,5 +191,12 @@ public final class PlacesTest {
         x.map(1450, 0b01000);
         c.due("and no other has", x.shared(1), 0b00010);
         c.due("tree of three", x.shared(-1), 2 + 3);
+        OlderSkin many = new OlderSkin();
+        for (int k = 0; k < 8; k++) {
+            many.map(1000, k >= 6 ? 1 << 15 | 1 : k == 0 ? 1 : 0);
+        }
+        c.due("6 and 7", many.shared(67), 1 << 15);
+        c.due("7 and 6", many.shared(76), 1 << 15);
+        c.due("7 and 7", many.shared(77), BAD);
     }
 }

@@ -13,7 +13,9 @@ public final class SheetsTest {
         ordersCounted();
         ordersOfMany();
         sides();
+        sidesOfSix();
         withoutOne();
+        fortyWorms();
         c.end();
     }
 
@@ -196,6 +198,52 @@ public final class SheetsTest {
         }
         c.due("seven", x.side(0, 1, 0), BIG);
         c.due("seven, one and the same", x.side(0, 11, 0), BAD);
+    }
+
+    private static void sidesOfSix() {
+        OlderSkin x = withSheets(6);
+        for (int k = 0; k < 5; k++) {
+            x.hole(k, 100 * k);
+            x.hole(k + 1, 100 * k);
+        }
+        c.due("a chain of six", x.orders(0, 0), 2);
+        c.due("4 5 sure", x.side(0, 45, 0), 1);
+        c.due("5 4 sure", x.side(0, 54, 0), 1);
+        c.due("3 5 never", x.side(0, 35, 1), 0);
+        c.due("5 5", x.side(0, 55, 1), BAD);
+        OlderSkin one = withSheets(3);
+        one.hole(0, 0);
+        one.hole(2, 0);
+        one.hole(1, 500);
+        one.hole(2, 500);
+        c.due("1 2 in both orders", one.side(0, 12, 0), 1);
+        OlderSkin once = withSheets(6);
+        once.hole(0, 0);
+        once.hole(1, 0);
+        once.hole(2, 300);
+        once.hole(3, 300);
+        c.due("1 2 in some", once.side(0, 12, 1), 1);
+        c.due("1 2 not in all", once.side(0, 12, 0), 0);
+    }
+
+    private static void fortyWorms() {
+        OlderSkin x = withSheets(8);
+        for (int k = 0; k < 40; k++) {
+            x.hole(7, 20 * k);
+        }
+        c.due("forty worms", x.worms(0, -1), 40);
+        c.due("the last one", x.worms(0, 39), 128);
+        c.due("none behind it", x.worms(0, 40), BAD);
+        c.due("led to the last", x.led(39, 99), 39);
+        x.line(7, 3);
+        x.line(7, 4);
+        x.mark(39, 1);
+        x.mark(139, 0);
+        c.due("inks by the last worm", x.inks(0, 34), 1);
+        c.due("first by it", x.inks(0, -1), 3);
+        x.line(7, 3);
+        x.mark(239, 0);
+        c.due("a fight in the last worm", x.fight(0, 1), 39);
     }
 
     private static void withoutOne() {

@@ -16,6 +16,7 @@ public final class StoriesTest {
         nextRefused();
         undone();
         fortyAreKept();
+        fortyOfAllSorts();
         c.end();
     }
 
@@ -92,6 +93,9 @@ public final class StoriesTest {
         fault(";", 0);
         fault("?1", 0);
         fault("1?", 2);
+        fault("1?2|", 4);
+        fault("1?-------2", 8);
+        fault("0?!!!!!!1;q", 10);
         fault("1?2?3", 3);
         fault("(1?2)", 2);
         fault("(1;2)", 2);
@@ -202,6 +206,9 @@ public final class StoriesTest {
         value("0-(0-4096*4096*128)/-1/1000/1000", 2147);
         value("(0-4096*4096*128)%-1+3", 3);
         value("1?5", 5);
+        value("1?0|5", 1);
+        value("1?((((((5))))))", 5);
+        value("0|0?5;0|3?4", 4);
         value("0?5", 0);
         value("0?5;6", 6);
         value("3?5;6", 5);
@@ -348,6 +355,18 @@ public final class StoriesTest {
         c.due("best is 1 now", now.best(), 1);
         c.due("its odds now", now.odds(1, 1), 666);
         c.due("the story that is best now, not then", now.next(1000, 1), 666);
+        OlderSkin zero = new OlderSkin();
+        Checks.story(zero, "s=25", 0, 1);
+        Checks.story(zero, "0", 0, 1);
+        zero.dot(0, 25);
+        zero.dot(10, 25);
+        c.due("a dot of 0, and none of 1", zero.next(26, 1), 1000);
+        c.due("a dot of 26 alone tells none", zero.next(25, 1), 1000);
+        OlderSkin none = new OlderSkin();
+        Checks.story(none, "s+1", 0, 1);
+        Checks.story(none, "1", 0, 1);
+        c.due("the first dot of all", none.next(9, 1), 1000 * 10 / 11 - 500);
+        c.due("and it is gone then", none.count(4), 0);
     }
 
     private static void nextRefused() {
@@ -407,6 +426,45 @@ public final class StoriesTest {
         c.due("three to undo", x.count(9), 3);
         c.due("BAD is no change", x.mend(1, -1), BAD);
         c.due("still three", x.count(9), 3);
+    }
+
+    private static void fortyOfAllSorts() {
+        OlderSkin x = new OlderSkin();
+        for (int k = 0; k < 8; k++) {
+            x.sheet(k);
+        }
+        for (int k = 0; k < 40; k++) {
+            x.dot(0, k);
+        }
+        for (int k = 0; k < 6; k++) {
+            Checks.story(x, "1", 0, 1 + k);
+        }
+        for (int k = 0; k < 50; k++) {
+            if (k % 3 == 0) {
+                x.age(7 - k % 8, 1000 + k);
+            } else if (k % 3 == 1) {
+                x.mend(39 - k % 40, 1000 + k);
+            } else {
+                x.prior(k % 6, 40 + k);
+            }
+        }
+        for (int k = 39; k >= 0; k--) {
+            c.due("undo", x.undo(), k);
+        }
+        // changes 0 to 9 are lost, so they stay
+        c.due("change 9 stays", x.age(6, 9), 1009);
+        x.undo();
+        c.due("change 7 stays", x.mend(32, 9), 1007);
+        x.undo();
+        c.due("change 10 is undone", x.mend(29, 9), 29);
+        c.due("change 49 is undone", x.mend(30, 9), 30);
+        c.due("change 8 stays", x.prior(2, 9), 48);
+        c.due("change 11 is undone", x.prior(5, 9), 45);
+        x.undo();
+        x.undo();
+        x.undo();
+        x.undo();
+        c.due("those four may be done again", x.redo(), 3);
     }
 
     private static void fortyAreKept() {
