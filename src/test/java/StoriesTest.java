@@ -476,11 +476,13 @@ public final class StoriesTest {
         }
         for (int k = 39; k >= 0; k--) {
             c.due("undo", x.undo(), k);
+            c.due("the stuff before it", x.mean(0), 5 + k);
         }
         c.due("the oldest five are lost", x.mean(0), 5);
         c.due("none left", x.undo(), STATE);
         for (int k = 39; k >= 0; k--) {
             c.due("redo", x.redo(), k);
+            c.due("the stuff behind it", x.mean(0), 45 - k);
         }
         c.due("all done again", x.mean(0), 45);
         c.due("none to redo", x.redo(), STATE);
