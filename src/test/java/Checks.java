@@ -1,6 +1,9 @@
+import java.util.function.IntUnaryOperator;
+
 /** Counts answers that are as due, prints those that are not, and ends a test. */
 final class Checks {
     private final String name;
+    private String sentence = "";
     private int passed;
     private int failed;
 
@@ -15,12 +18,29 @@ final class Checks {
         }
         failed++;
         if (failed <= 50) {
-            System.out.println(name + ": " + call + " answered " + got + ", due is " + want);
+            System.out.println(name + ": " + sentence + call + " answered " + got + ", due is " + want);
         }
     }
 
     void due(String what, boolean holds) {
         due(what, holds ? 1 : 0, 1);
+    }
+
+    /** From here on, what is not as due is told with the words of the document that it breaks. */
+    void says(String words) {
+        sentence = "[" + words + "] ";
+    }
+
+    /** A number within low .. high alone: the ends are taken; those just outside, and the farthest, are refused. */
+    void range(String call, int low, int high, int refused, IntUnaryOperator answer) {
+        int[] inside = {low, low + (high - low) / 2, high};
+        for (int v : inside) {
+            due(call + " with " + v + " is taken", answer.applyAsInt(v) != refused);
+        }
+        int[] outside = {Integer.MIN_VALUE, -1000000, low - 2, low - 1, high + 1, high + 2, 1000000, Integer.MAX_VALUE};
+        for (int v : outside) {
+            due(call + " with " + v, answer.applyAsInt(v), refused);
+        }
     }
 
     /** Brings a text to the tape, byte by byte in fours; answers what the last feed() did. */

@@ -36,7 +36,7 @@ final class Draws {
         return calls;
     }
 
-    private static int[] rangesOf(String name) {
+    static int[] rangesOf(String name) {
         for (String r : RANGES) {
             String[] parts = r.split(" ");
             if (parts[0].equals(name)) {
