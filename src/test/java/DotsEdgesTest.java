@@ -299,6 +299,15 @@ public final class DotsEdgesTest {
                 c.due("seed " + seed + ", n " + n, x.chance(2, seed, n), said(inks, stuffs, seed, n));
             }
         }
+        OlderSkin forty = new OlderSkin();
+        int[] two = new int[40];
+        int[] much = new int[40];
+        for (int k = 0; k < 40; k++) {
+            two[k] = k % 3 == 0 ? 2 : 7;
+            much[k] = 251 * k * k % 10000;
+            forty.dot(two[k], much[k]);
+        }
+        c.due("among forty", forty.chance(2, 8, 50), said(two, much, 8, 50));
     }
 
     private static void chosenByNone() {

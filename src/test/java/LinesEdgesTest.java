@@ -193,6 +193,23 @@ public final class LinesEdgesTest {
         c.due("line 0 is round alone", x.fight(0, 0), 1);
         x.mark(4, 1);
         c.due("line 0", x.fight(0, 0), 0);
+        OlderSkin told = threeWorms();
+        told.line(0, 1);
+        told.line(1, 1);
+        told.mark(0, 1);
+        told.mark(4, 1);
+        told.mark(101, 0);
+        told.mark(105, 0);
+        c.due("worm 0, though worm 2 was told behind it", told.fight(0, 1), 0);
+        OlderSkin forty = oneSheet();
+        forty.line(0, 4);
+        forty.line(0, 4);
+        for (int k = 0; k < 40; k++) {
+            forty.hole(0, 0);
+        }
+        forty.mark(39, 1);
+        forty.mark(139, 0);
+        c.due("the last of forty worms", forty.fight(0, 1), 39);
     }
 
     private static void pairsOfInks() {

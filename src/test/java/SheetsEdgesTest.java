@@ -230,6 +230,12 @@ public final class SheetsEdgesTest {
         c.says("7: if its SHEETS lie one behind the other, none between");
         c.due("0 and 2 of three: 1 not between", x.orders(0, 0), 4);
         c.due("the first has them together", x.orders(0, 1), 132);
+        c.says("7: the first as digits (SHEETS and 1)");
+        OlderSkin middle = withHoles(3, 0, 0, 1, 0, 0, 200, 2, 200);
+        c.due("an order can't begin with the one between", middle.orders(0, 1), 213);
+        c.due("so there are two", middle.orders(0, 0), 2);
+        OlderSkin last = withHoles(6, 0, 0, 5, 0, 5, 200, 4, 200, 4, 400, 3, 400, 3, 600, 2, 600, 2, 800, 1, 800);
+        c.due("all in one chain", last.orders(0, 1), 165432);
         c.says("7: the first as digits (1; NOT)");
         OlderSkin ring = withHoles(3, 0, 0, 1, 0, 1, 200, 2, 200, 2, 400, 0, 400);
         c.due("no order lets all worms", ring.orders(0, 0), 0);
@@ -271,8 +277,15 @@ public final class SheetsEdgesTest {
         c.due("in none: MAY", x.side(0, 2, 1), 0);
         c.due("not in all: SURE", x.side(0, 3, 0), 0);
         c.due("not in all: MAY", x.side(0, 3, 1), 1);
+        c.due("in all, both behind the first: SURE", x.side(0, 12, 0), 1);
+        c.due("turned about: SURE", x.side(0, 21, 0), 1);
+        c.due("2 and 3 not in all: SURE", x.side(0, 23, 0), 0);
+        c.due("2 and 3 not in all: MAY", x.side(0, 32, 1), 1);
         OlderSkin two = withSheets(2);
         c.due("two sheets are always", two.side(0, 1, 0), 1);
+        OlderSkin free = withSheets(3);
+        c.due("of three not in all: SURE", free.side(0, 2, 0), 0);
+        c.due("of three not in all: MAY", free.side(0, 2, 1), 1);
         c.says("8: NOT: no ORDER");
         OlderSkin ring = withHoles(3, 0, 0, 1, 0, 1, 200, 2, 200, 2, 400, 0, 400);
         c.due("SURE", ring.side(0, 1, 0), NOT);

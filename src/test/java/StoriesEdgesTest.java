@@ -489,15 +489,12 @@ public final class StoriesEdgesTest {
         }
         for (int k = 44; k >= 5; k--) {
             c.due("undo", x.undo(), k - 5);
-            int now = 50 + k;
             c.due("change " + k + " is undone", tell(x, k, was[k]), was[k]);
-            c.due("that was none", x.count(9), k - 5);
-            c.due("it was one", was[k] != now);
+            c.due("telling that was none", x.count(9), k - 5);
         }
         for (int k = 5; k < 45; k++) {
-            int now = 50 + k;
             c.due("redo", x.redo(), 44 - k);
-            c.due("change " + k + " is done again", tell(x, k, now), now);
+            c.due("change " + k + " is done again", tell(x, k, 50 + k), 50 + k);
         }
     }
 
