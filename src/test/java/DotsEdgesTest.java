@@ -20,6 +20,7 @@ public final class DotsEdgesTest {
         chosenByNone();
         madeInAYear();
         barredBeforeIt();
+        allFortyCount();
         c.end();
     }
 
@@ -345,6 +346,30 @@ public final class DotsEdgesTest {
         c.due("not known was told", x.made(5, 0), 2001);
     }
 
+    private static void allFortyCount() {
+        c.says("14 to 22: DOTS 0 .. 39");
+        OlderSkin x = new OlderSkin();
+        for (int k = 0; k < 38; k++) {
+            x.dot(0, 10);
+        }
+        x.dot(17, 9);
+        x.dot(45, 8000);
+        c.due("forty", x.count(4), 40);
+        c.due("mean in the first ink", x.mean(50), 10);
+        c.due("mean in the last dot's ink", x.mean(55), 8000);
+        c.due("mean of ink 7", x.mean(57), 9);
+        c.due("ODD of 38", x.odd(0), 38);
+        c.due("ODD of the last", x.odd(5), 1);
+        c.due("CHOSEN by the last", x.chosen(4), 7990);
+        c.due("CHOSEN by all others", x.chosen(0), -7990);
+        x.made(1900, 7999);
+        c.due("the last bars", x.bars(5, 1899), 1);
+        c.due("the others don't", x.bars(0, 1899), 0);
+        c.due("the last is mended", x.mend(39, 9), 8000);
+        c.due("as much as ink 7", x.odd(5), 0);
+        c.due("BY CHANCE of the last and ink 7", x.chance(5, 4, 50), 50);
+    }
+
     private static void barredBeforeIt() {
         c.says("22: Whether an INK (0 .. 5) bars a YEAR of drawing (1, 0). BAD.");
         OlderSkin x = withDots(0, 50, 5, 50, 6, 50, 7, 50);
@@ -359,6 +384,12 @@ public final class DotsEdgesTest {
         x.made(2000, 0);
         c.due("the year before it", x.bars(0, 1999), 1);
         c.due("that year", x.bars(0, 2000), 0);
+        x.made(1500, 0);
+        c.due("the year before it", x.bars(0, 1499), 1);
+        c.due("the first year", x.bars(0, 0), 1);
+        c.due("that year", x.bars(0, 1500), 0);
+        c.due("the year behind it", x.bars(0, 1501), 0);
+        c.due("the last year", x.bars(0, 2000), 0);
         x.made(1, 0);
         c.due("year 0 before year 1", x.bars(0, 0), 1);
         x.made(0, 0);

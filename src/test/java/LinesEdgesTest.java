@@ -8,6 +8,7 @@ public final class LinesEdgesTest {
         marksOfLinesAndHoles();
         marksToldOtherwise();
         sixtyMarks();
+        allSixtyCount();
         fightsThatAreNone();
         theFirstLineAndLeastWorm();
         pairsOfInks();
@@ -133,6 +134,43 @@ public final class LinesEdgesTest {
         c.due("one more still", x.mark(131, 0), FULL);
     }
 
+    private static void allSixtyCount() {
+        c.says("11, 12, 13: 60 MARKS, 20 LINES");
+        OlderSkin x = oneSheet();
+        x.sheet(0);
+        for (int k = 0; k < 40; k++) {
+            x.hole(k / 20, 7 * (k % 20));
+        }
+        for (int k = 0; k < 20; k++) {
+            x.line(k / 10, k % 5);
+        }
+        for (int k = 0; k < 59; k++) {
+            c.due("round", x.mark(100 * (k / 12) + k % 12, 0), k + 1);
+        }
+        c.due("no fight among 59", x.fight(0, 0), NOT);
+        c.due("the last of 60 is over", x.mark(1939, 1), 60);
+        c.due("ink 4 is round in worm 11 at the most", x.fight(0, 0), NOT);
+        c.due("no ink came first by it", x.inks(0, 40), 0);
+        c.due("one more", x.mark(411, 0), FULL);
+        OlderSkin y = oneSheet();
+        y.sheet(0);
+        for (int k = 0; k < 40; k++) {
+            y.hole(k / 20, 7 * (k % 20));
+        }
+        for (int k = 0; k < 20; k++) {
+            y.line(k / 10, k % 5);
+        }
+        for (int k = 0; k < 59; k++) {
+            y.mark(100 * (k / 15) + k % 15, 0);
+        }
+        c.due("the last of 60 is over", y.mark(1820, 1), 60);
+        c.due("the fight of line 18, ink 3, over worm 0", y.fight(0, 0), 18);
+        c.due("worm 0", y.fight(0, 1), 0);
+        c.due("ink 3 came ahead of ink 0", y.inks(0, 30), 1);
+        c.due("and no other way about", y.inks(0, 3), 0);
+        c.due("FIRST: the least that none came ahead of", y.inks(0, -1), 3);
+    }
+
     private static void fightsThatAreNone() {
         c.says("12: BAD; NOT: none");
         OlderSkin x = threeWorms();
@@ -201,6 +239,19 @@ public final class LinesEdgesTest {
         told.mark(101, 0);
         told.mark(105, 0);
         c.due("worm 0, though worm 2 was told behind it", told.fight(0, 1), 0);
+        told.mark(101, 1);
+        c.due("both are over worm 0: worm 2 is left", told.fight(0, 1), 2);
+        told.mark(2, 1);
+        told.mark(103, 0);
+        c.due("worm 1, told behind worm 2", told.fight(0, 1), 1);
+        OlderSkin inOrder = threeWorms();
+        inOrder.line(0, 1);
+        inOrder.line(1, 1);
+        inOrder.mark(2, 1);
+        inOrder.mark(4, 1);
+        inOrder.mark(103, 0);
+        inOrder.mark(105, 0);
+        c.due("worm 1, told ahead of worm 2", inOrder.fight(0, 1), 1);
         OlderSkin forty = oneSheet();
         forty.line(0, 4);
         forty.line(0, 4);

@@ -47,6 +47,7 @@ public final class PlacesEdgesTest {
         c.due("count(5)", x.count(5), 20);
         c.due("none counts behind them", x.late(0, 0), 20);
         c.due("the greatest sum", x.late(0, 1), 20 * 198);
+        c.due("none is drawn farther off", x.well(0, 6, 50), 50);
         c.due("BAD is named ahead of FULL: known", x.place(2001, 0, 0), BAD);
         c.due("BAD is named ahead of FULL: truly", x.place(0, 10000, 0), BAD);
         c.due("BAD is named ahead of FULL: drawn", x.place(0, 0, -1), BAD);

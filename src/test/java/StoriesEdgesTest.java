@@ -9,6 +9,7 @@ public final class StoriesEdgesTest {
         sixStories();
         weightsHeld();
         namesWithout();
+        namesOfAll();
         priorsToldAnew();
         oddsRefused();
         oddsCut();
@@ -196,6 +197,39 @@ public final class StoriesEdgesTest {
         z.hole(1, 5);
         z.mark(102, 0);
         c.due("as far off as slack 5", z.odds(2, 0), 112);
+        z.mark(0, 0);
+        c.due("line 0 is round now, as line 1 is", z.odds(2, 0), 3);
+        z.mark(101, 1);
+        z.mark(102, 1);
+        c.due("a fight of line 1 alone", z.odds(2, 0), 121);
+        z.mark(101, 0);
+        c.due("by one of its marks", z.odds(2, 0), 112);
+    }
+
+    private static void namesOfAll() {
+        c.says("33: o, r of 60 MARKS, s, b of 40 DOTS, l of 20 PLACES, a of 8 SHEETS");
+        OlderSkin x = new OlderSkin();
+        for (int k = 0; k < 8; k++) {
+            x.sheet(1000 + k);
+        }
+        for (int k = 0; k < 40; k++) {
+            x.hole(0, k);
+            x.dot(k < 39 ? 7 : 45, 10 * k);
+        }
+        x.line(0, 0);
+        x.line(0, 1);
+        for (int k = 0; k < 60; k++) {
+            x.mark(100 * (k / 40) + k % 40, k % 4 == 3 ? 1 : 0);
+        }
+        for (int k = 0; k < 20; k++) {
+            x.place(k < 19 ? 500 : 900, 0, 0);
+        }
+        c.due("o", weight(x, "o", 0), 15);
+        c.due("r", weight(x, "r", 0), 45);
+        c.due("s", weight(x, "s", 0), 390);
+        c.due("b", weight(x, "b", 0), 190);
+        c.due("l", weight(x, "l*20+l", 499), 420);
+        c.due("a, and one place", weight(x, "a*10+l", 899), 1081);
     }
 
     private static void priorsToldAnew() {
