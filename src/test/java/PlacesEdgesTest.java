@@ -180,6 +180,13 @@ public final class PlacesEdgesTest {
         OlderSkin x = withMaps(5, 1, 6, 3, 7, 7);
         c.range("father(map, 0) of three", 0, 2, BAD, v -> x.father(v, 0));
         c.range("father(1, what)", 0, 1, BAD, v -> x.father(1, v));
+        OlderSkin apart = withMaps(5, 0, 6, 1, 7, 63, 4, 65535);
+        int[] fathers = {3, 0, 1, NOT};
+        int[] bits = {16, 1, 5, NOT};
+        for (int map = 0; map < 4; map++) {
+            c.due("father(" + map + ", 0)", apart.father(map, 0), fathers[map]);
+            c.due("father(" + map + ", 1)", apart.father(map, 1), bits[map]);
+        }
         c.says("27: of MAPS with an earlier YEAR; NOT: none is earlier");
         c.due("the first of all", x.father(0, 0), NOT);
         c.due("the first of all, bits", x.father(0, 1), NOT);

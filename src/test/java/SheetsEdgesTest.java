@@ -286,6 +286,16 @@ public final class SheetsEdgesTest {
         OlderSkin free = withSheets(3);
         c.due("of three not in all: SURE", free.side(0, 2, 0), 0);
         c.due("of three not in all: MAY", free.side(0, 2, 1), 1);
+        c.says("8: by SLACK (0 .. 99)");
+        OlderSkin slow = withHoles(3, 0, 100, 1, 160, 1, 300, 2, 360);
+        for (int what = 0; what <= 1; what++) {
+            c.due("as far as SLACK: one worm each", slow.side(60, 1, what), 1);
+            c.due("as far as SLACK: apart by the one between", slow.side(60, 2, what), 0);
+            c.due("as far as SLACK: the other worm", slow.side(60, 12, what), 1);
+            c.due("farther than SLACK: 0 and 1", slow.side(59, 1, what), what);
+            c.due("farther than SLACK: 0 and 2", slow.side(59, 2, what), what);
+            c.due("farther than SLACK: 1 and 2", slow.side(59, 21, what), what);
+        }
         c.says("8: NOT: no ORDER");
         OlderSkin ring = withHoles(3, 0, 0, 1, 0, 1, 200, 2, 200, 2, 400, 0, 400);
         c.due("SURE", ring.side(0, 1, 0), NOT);

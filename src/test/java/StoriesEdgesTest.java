@@ -67,6 +67,14 @@ public final class StoriesEdgesTest {
         for (int k = 1; k <= 510; k++) {
             c.due("512 calls can't fill it", many.feed(4, '+' << 24 | '1' << 16 | '+' << 8 | '1'), 4 * k);
         }
+        int[] bytes = {0, -1, Integer.MIN_VALUE, Integer.MAX_VALUE};
+        for (int v4 : bytes) {
+            OlderSkin odd = new OlderSkin();
+            for (int k = 1; k <= 511; k++) {
+                c.due("whatever the bytes are: " + v4, odd.feed(4, v4), 4 * k);
+            }
+            c.due("none of them is a text", odd.story(0, 1), -100);
+        }
         many.feed(1, '1');
         c.due("a text of 2041 bytes", many.story(0, 1), 0);
         c.due("its weight", many.odds(0, 0), 1021);
