@@ -30,6 +30,7 @@ public final class OlderSkin {
     private final Changes changes = new Changes();
     private final Bodies bodies = new Bodies();
     private final Shelves shelves = new Shelves();
+    /** What each name stands for in the story that is weighed, in the order of Tape.NAMES. */
     private final int[] names = new int[Tape.NAMES.length()];
 
     public OlderSkin() {
